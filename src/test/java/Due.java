@@ -1,0 +1,35 @@
+/** Compares answers with the ones that are due, and ends a test with exit code 1 if one differs. */
+final class Due {
+    private static int wrong = 0;
+    private static int asked = 0;
+
+    private Due() {
+    }
+
+    static void due(String call, long got, long want) {
+        asked++;
+        if (got != want) {
+            wrong++;
+            System.out.println(call + " answered " + got + ", due is " + want);
+        }
+    }
+
+    static void dueText(String call, String got, String want) {
+        asked++;
+        if (!got.equals(want)) {
+            wrong++;
+            System.out.println(call + " answered \"" + got + "\", due is \"" + want + "\"");
+        }
+    }
+
+    static boolean anyWrong() {
+        return wrong != 0;
+    }
+
+    static void finish() {
+        System.out.println(wrong == 0 ? asked + " answers are as due" : wrong + " of " + asked + " answers are not as due");
+        if (wrong != 0) {
+            System.exit(1);
+        }
+    }
+}

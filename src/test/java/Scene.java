@@ -1,0 +1,94 @@
+/** A ThrowScenario with the kinds of nodes by their names; a node that is refused ends the test. */
+final class Scene {
+    static final int THROWABLE = 0;
+    static final int NULL = 1;
+    static final int ARITHMETIC = 2;
+    static final int INDEX = 3;
+    static final int CAST = 4;
+    static final int DEPTH = 5;
+    static final int MONITOR = 6;
+    static final int RUNTIME = 7;
+    static final int ERROR = 8;
+    static final int EXCEPTION = 9;
+    static final int NOTHING = -1;
+
+    final ThrowScenario x;
+
+    Scene(int limit) {
+        x = new ThrowScenario(limit);
+    }
+
+    private int make(int kind, int a, int b, int c) {
+        int made = x.node(kind, a, b, c);
+        if (made < 0) {
+            throw new IllegalStateException("node(" + kind + ", " + a + ", " + b + ", " + c + ") answered " + made);
+        }
+        return made;
+    }
+
+    int log(int number) { return make(0, number, 0, 0); }
+    int show(int v) { return make(1, v, 0, 0); }
+    int set(int v, int number) { return make(2, v, number, 0); }
+    int add(int v, int number) { return make(3, v, number, 0); }
+    int sequence(int first, int then) { return make(4, first, then, 0); }
+    int choose(int v, int then, int otherwise) { return make(5, v, then, otherwise); }
+    int loop(int times, int node) { return make(6, times, node, 0); }
+    int breaks() { return make(7, 0, 0, 0); }
+    int returns(int v) { return make(8, v, 0, 0); }
+    int call(int r) { return make(9, r, 0, 0); }
+    int throwing(int type, int message) { return make(10, type, message, 0); }
+    int rethrow() { return make(11, 0, 0, 0); }
+    int wrap(int type, int message) { return make(12, type, message, 0); }
+    int tryCatch(int node, int type, int handler) { return make(13, node, type, handler); }
+    int atLast(int node, int last) { return make(14, node, last, 0); }
+    int resource(int node, int closing) { return make(15, node, closing, 0); }
+    int div(int v, int by) { return make(16, v, by, 0); }
+    int index(int v, int places) { return make(17, v, places, 0); }
+    int cast(int type) { return make(18, type, 0, 0); }
+    int exit(int v) { return make(19, v, 0, 0); }
+    int lock(int m, int node) { return make(20, m, node, 0); }
+    int wake(int m) { return make(21, m, 0, 0); }
+    int origin() { return make(22, 0, 0, 0); }
+
+    /** One node after the other. */
+    int all(int... nodes) {
+        int made = nodes[nodes.length - 1];
+        for (int i = nodes.length - 2; i >= 0; i--) {
+            made = sequence(nodes[i], made);
+        }
+        return made;
+    }
+
+    void routine(int r, int node) {
+        if (x.define(r, node) != 0) {
+            throw new IllegalStateException("define(" + r + ", " + node + ") was refused");
+        }
+    }
+
+    /** Runs a node as routine 0. */
+    int runs(int node, int a, int b) {
+        routine(0, node);
+        return x.run(0, a, b);
+    }
+
+    int runs(int node) {
+        return runs(node, 0, 0);
+    }
+
+    String reportText() {
+        StringBuilder text = new StringBuilder();
+        int length = x.report(-1);
+        for (int i = 0; i < length; i++) {
+            text.append((char) x.report(i));
+        }
+        return text.toString();
+    }
+
+    String logText() {
+        StringBuilder text = new StringBuilder();
+        for (int k = 0; x.logged(k) != ThrowScenario.NONE; k++) {
+            text.append(k == 0 ? "" : " ").append(x.logged(k));
+        }
+        return text.toString();
+    }
+}

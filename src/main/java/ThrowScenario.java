@@ -142,15 +142,7 @@ public final class ThrowScenario {
         switch (what) {
             case 0: return classes.size();
             case 1: return program.size();
-            case 2: return machine.begun();
-            case 3: return machine.made();
-            case 4: return machine.handlers();
-            case 5: return machine.secondParts();
-            case 6: return machine.deepest();
-            case 7: return machine.logSize();
-            case 8: return machine.heldAt(0);
-            case 9: return machine.heldAt(1);
-            default: return REFUSED;
+            default: return machine.tally(what);
         }
     }
 
@@ -490,8 +482,19 @@ public final class ThrowScenario {
             return variables[v];
         }
 
-        int heldAt(int m) {
-            return held[m];
+        /** The counts of the last run, by the numbers of promise 13. */
+        int tally(int what) {
+            switch (what) {
+                case 2: return begun;
+                case 3: return made;
+                case 4: return handlers;
+                case 5: return secondParts;
+                case 6: return deepest;
+                case 7: return logSize;
+                case 8: return held[0];
+                case 9: return held[1];
+                default: return REFUSED;
+            }
         }
 
         int logSize() {
@@ -500,26 +503,6 @@ public final class ThrowScenario {
 
         int logAt(int k) {
             return log[k];
-        }
-
-        int made() {
-            return made;
-        }
-
-        int begun() {
-            return begun;
-        }
-
-        int handlers() {
-            return handlers;
-        }
-
-        int secondParts() {
-            return secondParts;
-        }
-
-        int deepest() {
-            return deepest;
         }
 
         int carried() {
@@ -552,8 +535,8 @@ public final class ThrowScenario {
                 case Kind.LOOP: return loop(node, depth, hand);
                 case Kind.CALL: return call(node, depth);
                 case Kind.TRY: return tryAndCatch(node, depth, hand);
-                case Kind.FINALLY: return doAtLast(node, depth, hand);
-                case Kind.RESOURCE: return useAndClose(node, depth, hand);
+                case Kind.FINALLY:
+                case Kind.RESOURCE: return doBoth(node, depth, hand);
                 case Kind.LOCK: return lock(node, depth, hand);
                 case Kind.BREAK: return Way.BREAK;
                 case Kind.RETURN: return carry(variables[node.a], Way.RETURN);
@@ -616,45 +599,25 @@ public final class ThrowScenario {
             return perform(node.c, depth, thrown);
         }
 
-        private Way doAtLast(Node node, int depth, Thrown hand) {
+        private Way doBoth(Node node, int depth, Thrown hand) {
             Way way = perform(node.a, depth, hand);
             if (way.endsRun) {
                 return way;
             }
+            // The second part may return from calls or catch throwables of its own meanwhile.
             int keptCarried = carried;
             Thrown keptThrown = thrown;
-            countSecondPart();
-            Way last = perform(node.b, depth, hand);
-            return last == Way.NORMALLY ? resume(way, keptCarried, keptThrown) : last;
-        }
-
-        private Way useAndClose(Node node, int depth, Thrown hand) {
-            Way way = perform(node.a, depth, hand);
-            if (way.endsRun) {
-                return way;
-            }
-            int keptCarried = carried;
-            Thrown keptThrown = thrown;
-            countSecondPart();
-            Way closing = perform(node.b, depth, hand);
-            boolean prevails = way != Way.THROWING && closing != Way.NORMALLY;
-            if (closing.endsRun || prevails) {
-                return closing;
-            }
-            if (way == Way.THROWING && closing == Way.THROWING) {
-                keptThrown.suppressed++;
-            }
-            return resume(way, keptCarried, keptThrown);
-        }
-
-        private void countSecondPart() {
             if (mayBegin()) {
                 secondParts++;
             }
-        }
-
-        // A second part may have returned from calls or caught throwables of its own meanwhile.
-        private Way resume(Way way, int keptCarried, Thrown keptThrown) {
+            Way last = perform(node.b, depth, hand);
+            boolean keepsThrowing = node.kind == Kind.RESOURCE && way == Way.THROWING && !last.endsRun;
+            if (last != Way.NORMALLY && !keepsThrowing) {
+                return last;
+            }
+            if (keepsThrowing && last == Way.THROWING) {
+                keptThrown.suppressed++;
+            }
             carried = keptCarried;
             thrown = keptThrown;
             return way;

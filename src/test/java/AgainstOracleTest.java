@@ -2,12 +2,15 @@ import java.util.Random;
 
 /** Many made-up scenarios, the same in every run, whose answers must be those of the Oracle. */
 public final class AgainstOracleTest {
-    private static final int SCENARIOS = 6000;
+    private static final int SCENARIOS = 20000;
+    private static final int MOST_CALLS = 512;
+    private static final int CALLS_OF_A_TURN = 270;
     private static final int[] ODD = {Integer.MIN_VALUE, -257, -2, -1, 0, 1, 2, 3, 5, 6, 9, 10, 16, 64, 300, Integer.MAX_VALUE};
 
     private final Random dice;
     private final ThrowScenario x;
     private final Oracle o;
+    private int calls = 0;
     private int nodes = 0;
     private int classes = 10;
 
@@ -44,7 +47,8 @@ public final class AgainstOracleTest {
         for (int r = 0; r < 6; r++) {
             define(r);
         }
-        for (int i = 0; i < 6; i++) {
+        // what an object answers after its 512th call is free
+        while (calls + CALLS_OF_A_TURN <= MOST_CALLS) {
             if (dice.nextInt(3) > 0) {
                 dispatch();
             }
@@ -56,6 +60,12 @@ public final class AgainstOracleTest {
             makeNode();
             define(dice.nextInt(6));
         }
+        Due.due("calls stay within what is promised", calls <= MOST_CALLS ? 1 : 0, 1);
+    }
+
+    private void due(String call, long got, long want) {
+        calls++;
+        Due.due(call, got, want);
     }
 
     private int odd() {
@@ -69,7 +79,7 @@ public final class AgainstOracleTest {
     private void declare() {
         int parent = seldom() ? odd() : dice.nextInt(classes);
         int due = o.declare(parent);
-        Due.due("declare(" + parent + ")", x.declare(parent), due);
+        due("declare(" + parent + ")", x.declare(parent), due);
         classes = due >= 0 ? due + 1 : classes;
     }
 
@@ -117,19 +127,19 @@ public final class AgainstOracleTest {
         int b = operand(kind, 1);
         int c = operand(kind, 2);
         int due = o.node(kind, a, b, c);
-        Due.due("node(" + kind + ", " + a + ", " + b + ", " + c + ")", x.node(kind, a, b, c), due);
+        due("node(" + kind + ", " + a + ", " + b + ", " + c + ")", x.node(kind, a, b, c), due);
         nodes = due >= 0 ? due + 1 : nodes;
     }
 
     private void define(int r) {
         int routine = seldom() ? odd() : r;
         int node = seldom() ? odd() : someNode();
-        Due.due("define(" + routine + ", " + node + ")", x.define(routine, node), o.define(routine, node));
+        due("define(" + routine + ", " + node + ")", x.define(routine, node), o.define(routine, node));
     }
 
     private void dispatch() {
         int r = seldom() ? odd() : dice.nextInt(7) - 1;
-        Due.due("dispatch(" + r + ")", x.dispatch(r), o.dispatch(r));
+        due("dispatch(" + r + ")", x.dispatch(r), o.dispatch(r));
     }
 
     private int runOne() {
@@ -137,29 +147,45 @@ public final class AgainstOracleTest {
         int a = odd();
         int b = odd();
         int due = o.run(r, a, b);
-        Due.due("run(" + r + ", " + a + ", " + b + ")", x.run(r, a, b), due);
+        due("run(" + r + ", " + a + ", " + b + ")", x.run(r, a, b), due);
         return due;
     }
 
     private void compare() {
-        Due.due("value()", x.value(), o.value());
+        due("value()", x.value(), o.value());
         for (int v = -1; v <= 4; v++) {
-            Due.due("variable(" + v + ")", x.variable(v), o.variable(v));
+            due("variable(" + v + ")", x.variable(v), o.variable(v));
         }
         for (int what = -1; what <= 10; what++) {
-            Due.due("count(" + what + ")", x.count(what), o.count(what));
+            due("count(" + what + ")", x.count(what), o.count(what));
         }
-        for (int k = -1; k <= o.count(7); k++) {
-            Due.due("logged(" + k + ")", x.logged(k), o.logged(k));
+        int logged = o.count(7);
+        for (int k = Math.max(-1, logged - 30); k <= logged; k++) {
+            due("logged(" + k + ")", x.logged(k), o.logged(k));
         }
-        for (int k = -1; k <= 100; k++) {
-            for (int what = -1; what <= 3; what++) {
-                Due.due("failure(" + k + ", " + what + ")", x.failure(k, what), o.failure(k, what));
-                Due.due("second(" + k + ", " + what + ")", x.second(k, what), o.second(k, what));
+        compareChains();
+        for (int i = -2; i <= o.report(-1); i++) {
+            due("report(" + i + ")", x.report(i), o.report(i));
+        }
+    }
+
+    /** The begin and the end of both cause chains. */
+    private void compareChains() {
+        int failures = 0;
+        while (o.failure(failures, 0) != ThrowScenario.NONE) {
+            failures++;
+        }
+        int seconds = 0;
+        while (o.second(seconds, 0) != ThrowScenario.NONE) {
+            seconds++;
+        }
+        for (int what = -1; what <= 3; what++) {
+            for (int i = 0; i < 8; i++) {
+                int k = i < 4 ? i - 1 : failures + i - 7;
+                due("failure(" + k + ", " + what + ")", x.failure(k, what), o.failure(k, what));
+                int m = i < 4 ? i - 1 : seconds + i - 7;
+                due("second(" + m + ", " + what + ")", x.second(m, what), o.second(m, what));
             }
-        }
-        for (int i = -2; i <= 121; i++) {
-            Due.due("report(" + i + ")", x.report(i), o.report(i));
         }
     }
 }

@@ -76,6 +76,18 @@ public final class RunTest {
         Due.due("the closing that was not begun is not counted", s.x.count(5), 1);
         Due.due("value() of a tired run", s.x.value(), ThrowScenario.NONE);
         Due.dueText("report of a tired run", s.reportText(), "tired");
+        endsAtOnceWhenTired(s);
+    }
+
+    private static void endsAtOnceWhenTired(Scene s) {
+        int endless = s.loop(8, s.loop(8, s.loop(8, s.add(0, 1))));
+        s.routine(1, s.lock(1, endless));
+        int guarded = s.tryCatch(s.call(1), Scene.THROWABLE, s.log(1));
+        int closed = s.resource(s.atLast(guarded, s.log(2)), s.log(3));
+        Due.due("tired within everything", s.runs(s.loop(3, s.sequence(closed, s.log(4)))), ThrowScenario.TIRED);
+        Due.dueText("nothing more is done", s.logText(), "");
+        Due.due("the lock is not left", s.x.count(9), 1);
+        Due.due("no second part was begun", s.x.count(5), 0);
     }
 
     private static void exit() {

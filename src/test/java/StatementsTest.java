@@ -137,6 +137,25 @@ public final class StatementsTest {
         dueLog("not AT HAND in a second part", s, s.tryCatch(s.atLast(one, origin), 0, s.log(5)), "5");
         dueLog("not AT HAND in a closing", s, s.tryCatch(s.resource(one, origin), 0, s.log(5)), "5");
         dueReport("RETHROW of none", s, s.rethrow(), 0, 0, "uncaught Null(0)");
+        atHandInEveryPart();
+    }
+
+    private static void atHandInEveryPart() {
+        Scene s = new Scene(3);
+        int one = s.throwing(Scene.ARITHMETIC, 1);
+        int origin = s.origin();
+        int log = s.log(0);
+        int both = s.tryCatch(s.sequence(origin, s.throwing(Scene.CAST, 2)), Scene.ERROR, log);
+        dueLog("in a SEQUENCE", s, s.tryCatch(one, 0, s.sequence(origin, origin)), "2 2");
+        dueLog("in an IF that is 0", s, s.tryCatch(one, 0, s.choose(0, log, origin)), "2");
+        dueLog("in an IF that is not 0", s, s.tryCatch(one, 0, s.sequence(s.set(0, 1), s.choose(0, origin, log))), "2");
+        dueLog("in a LOOP", s, s.tryCatch(one, 0, s.loop(2, origin)), "2 2");
+        dueLog("in a TRY", s, s.tryCatch(one, 0, both), "2");
+        dueLog("in a FINALLY", s, s.tryCatch(one, 0, s.atLast(origin, origin)), "2 2");
+        dueLog("in a RESOURCE", s, s.tryCatch(one, 0, s.resource(origin, origin)), "2 2");
+        dueLog("in a LOCK", s, s.tryCatch(one, 0, s.lock(0, origin)), "2");
+        dueReport("to WRAP in a LOOP", s, s.tryCatch(one, 0, s.loop(2, s.wrap(Scene.ERROR, 3))), 0, 0,
+            "uncaught Error(3) from Arithmetic(1)");
     }
 
     private static void finallies() {
@@ -190,6 +209,8 @@ public final class StatementsTest {
         Due.due("leaves the variable", s.x.variable(0), 7);
         s.runs(s.div(1, 1), 0, -6);
         Due.due("DIV by itself", s.x.variable(1), 1);
+        s.runs(s.sequence(div, s.log(1)), 6, 3);
+        Due.dueText("DIV completes normally", s.logText(), "1");
     }
 
     private static void indexes() {
@@ -202,6 +223,7 @@ public final class StatementsTest {
                 dueReport("INDEX " + place + " of " + places, s, node, 0, place, want);
             }
         }
+        dueLog("INDEX completes normally", s, s.sequence(s.index(0, 1), s.log(1)), "1");
     }
 
     private static void casts() {

@@ -2,24 +2,38 @@
 final class Due {
     private static int wrong = 0;
     private static int asked = 0;
+    private static int sentences = 0;
+    private static String sentence = "";
 
     private Due() {
+    }
+
+    /** Names the section and the sentence of the document by which the next answers are due. */
+    static void by(String section, String words) {
+        sentences++;
+        sentence = section + ", \"" + words + "\": ";
+        if (!Document.says(section, words)) {
+            tellWrong("the document does not say so");
+        }
     }
 
     static void due(String call, long got, long want) {
         asked++;
         if (got != want) {
-            wrong++;
-            System.out.println(call + " answered " + got + ", due is " + want);
+            tellWrong(call + " answered " + got + ", due is " + want);
         }
     }
 
     static void dueText(String call, String got, String want) {
         asked++;
         if (!got.equals(want)) {
-            wrong++;
-            System.out.println(call + " answered \"" + got + "\", due is \"" + want + "\"");
+            tellWrong(call + " answered \"" + got + "\", due is \"" + want + "\"");
         }
+    }
+
+    private static void tellWrong(String what) {
+        wrong++;
+        System.out.println(sentence + what);
     }
 
     static boolean anyWrong() {
@@ -27,7 +41,8 @@ final class Due {
     }
 
     static void finish() {
-        System.out.println(wrong == 0 ? asked + " answers are as due" : wrong + " of " + asked + " answers are not as due");
+        String all = asked + " answers by " + sentences + " sentences";
+        System.out.println(wrong == 0 ? all + " are as due" : wrong + " of " + all + " are not as due");
         if (wrong != 0) {
             System.exit(1);
         }

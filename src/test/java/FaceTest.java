@@ -8,15 +8,22 @@ import java.util.TreeSet;
 /** The public face: just the document's constants, constructor and methods, and no name used twice. */
 public final class FaceTest {
     public static void main(String[] args) {
-        constants();
+        answers();
+        outcomes();
         members();
         noPrivateMethodBearsAPublicName();
         Due.finish();
     }
 
-    private static void constants() {
+    private static void answers() {
+        Due.by("The public face", "public static final int REFUSED = -1; public static final int FULL = -2;");
         Due.due("REFUSED", ThrowScenario.REFUSED, -1);
         Due.due("FULL", ThrowScenario.FULL, -2);
+    }
+
+    private static void outcomes() {
+        Due.by("Terms", "The constants: `ENDED = 0`, `UNCAUGHT = 1`, `DISPATCHED = 2`, `HANDLER_THREW = 3`, `EXITED = 4`, `TIRED = 5`,"
+            + " `NONE = 1000000000000L`: Outcomes.");
         Due.due("ENDED", ThrowScenario.ENDED, 0);
         Due.due("UNCAUGHT", ThrowScenario.UNCAUGHT, 1);
         Due.due("DISPATCHED", ThrowScenario.DISPATCHED, 2);
@@ -27,6 +34,7 @@ public final class FaceTest {
     }
 
     private static void members() {
+        Due.by("The public face", "public final class ThrowScenario {");
         Set<String> face = new TreeSet<>();
         for (Field field : ThrowScenario.class.getDeclaredFields()) {
             if (!Modifier.isPrivate(field.getModifiers())) {
@@ -77,8 +85,8 @@ public final class FaceTest {
         for (Class<?> inside : ThrowScenario.class.getDeclaredClasses()) {
             Due.due(inside.getName() + " is static", Modifier.isStatic(inside.getModifiers()) ? 1 : 0, 1);
             for (Method method : inside.getDeclaredMethods()) {
-                Due.due(inside.getName() + "." + method.getName() + " bears a public name",
-                    names.contains(method.getName()) ? 1 : 0, 0);
+                boolean bears = Modifier.isPrivate(method.getModifiers()) && names.contains(method.getName());
+                Due.due(inside.getName() + "." + method.getName() + " bears a public name", bears ? 1 : 0, 0);
             }
         }
     }

@@ -1,92 +1,39 @@
-/** Promise 10: failure, its cause chain and what was suppressed. */
+/** Promise 10: failure. */
 public final class FailureTest {
+    private static final String SECTION = "Promise 10: failure";
+    private static final int MIN = Integer.MIN_VALUE;
+    private static final int MAX = Integer.MAX_VALUE;
+
     public static void main(String[] args) {
         chain();
+        longestChain();
+        suppressedSince();
+        noneInTheChain();
         noFailure();
-        wrongArguments();
-        suppressed();
-        deepChain();
+        anotherWhat();
         Due.finish();
     }
 
     private static void chain() {
-        Scene s = new Scene(2);
+        Due.by(SECTION, "Of the k-th of the cause chain of the last run's FAILURE, the FAILURE itself being 0, what 0: the class,"
+            + " 1: the message, 2: how many were suppressed.");
+        Scene s = new Scene(1);
         s.x.declare(Scene.INDEX);
-        int inner = s.tryCatch(s.throwing(10, -3), Scene.RUNTIME, s.wrap(Scene.ERROR, 5));
-        s.runs(s.tryCatch(inner, Scene.ERROR, s.wrap(Scene.NULL, Integer.MIN_VALUE)));
-        long[][] due = {{Scene.NULL, Integer.MIN_VALUE, 0}, {Scene.ERROR, 5, 0}, {10, -3, 0}};
+        int first = s.throwing(10, -3);
+        int closed = s.resource(s.resource(first, first), first);
+        int inner = s.tryCatch(closed, Scene.RUNTIME, s.wrap(Scene.ERROR, MAX));
+        s.runs(s.tryCatch(s.resource(inner, first), Scene.ERROR, s.wrap(Scene.NULL, MIN)));
+        long[][] due = {{Scene.NULL, MIN, 0}, {Scene.ERROR, MAX, 1}, {10, -3, 2}};
         for (int k = 0; k < 3; k++) {
             for (int what = 0; what < 3; what++) {
                 Due.due("failure(" + k + ", " + what + ")", s.x.failure(k, what), due[k][what]);
             }
         }
-        Due.due("failure(3, 0)", s.x.failure(3, 0), ThrowScenario.NONE);
-        Due.due("second(0, 0)", s.x.second(0, 0), ThrowScenario.NONE);
-        s.runs(s.wrap(Scene.CAST, 1));
-        Due.due("WRAP with none AT HAND", s.x.failure(0, 0), Scene.CAST);
-        Due.due("has no cause", s.x.failure(1, 0), ThrowScenario.NONE);
-        s.runs(s.tryCatch(s.throwing(0, 1), 0, s.throwing(0, 2)));
-        Due.due("THROW in a handler has no cause", s.x.failure(1, 0), ThrowScenario.NONE);
-    }
-
-    private static void noFailure() {
-        Scene s = new Scene(2);
-        int thrower = s.throwing(0, 1);
-        s.runs(thrower);
-        s.runs(s.tryCatch(thrower, 0, s.log(1)));
-        Due.due("caught", s.x.failure(0, 0), ThrowScenario.NONE);
-        s.runs(thrower);
-        s.runs(s.atLast(thrower, s.exit(0)));
-        Due.due("exit instead", s.x.failure(0, 0), ThrowScenario.NONE);
-    }
-
-    private static void wrongArguments() {
-        Scene s = new Scene(2);
-        s.runs(s.throwing(0, 1));
-        int[] wrong = {-1, 3, Integer.MIN_VALUE, Integer.MAX_VALUE};
-        for (int w : wrong) {
-            Due.due("failure(0, " + w + ")", s.x.failure(0, w), ThrowScenario.NONE);
-            Due.due("failure(" + w + ", 0)", s.x.failure(w, 0), ThrowScenario.NONE);
-        }
-    }
-
-    private static void suppressed() {
-        Scene s = new Scene(2);
-        int first = s.throwing(Scene.EXCEPTION, 1);
-        int other = s.throwing(Scene.ERROR, 2);
-        int once = s.resource(first, other);
-        s.runs(s.resource(s.resource(once, other), other));
-        Due.due("three closings that throw", s.x.failure(0, 2), 3);
-        Due.due("the first one's message", s.x.failure(0, 1), 1);
-        s.runs(once);
-        Due.due("anew in the next run", s.x.failure(0, 2), 1);
-        s.runs(s.tryCatch(once, 0, s.resource(s.rethrow(), other)));
-        Due.due("one more when thrown again", s.x.failure(0, 2), 2);
-        s.runs(s.tryCatch(once, 0, s.wrap(Scene.CAST, 3)));
-        Due.due("none for the one that wraps", s.x.failure(0, 2), 0);
-        Due.due("one for its cause", s.x.failure(1, 2), 1);
-        s.runs(s.tryCatch(first, 0, s.resource(s.rethrow(), s.rethrow())));
-        Due.due("the same one from both parts", s.x.failure(0, 2), 1);
-        s.runs(s.resource(s.log(1), other));
-        Due.due("only the closing throws", s.x.failure(0, 1), 2);
-        Due.due("nothing suppressed then", s.x.failure(0, 2), 0);
-        s.runs(s.resource(first, s.tryCatch(other, 0, s.log(1))));
-        Due.due("the closing catches its own", s.x.failure(0, 1), 1);
-        Due.due("nothing suppressed then", s.x.failure(0, 2), 0);
-        dispatchedSuppresses();
-    }
-
-    private static void dispatchedSuppresses() {
-        Scene s = new Scene(2);
-        s.x.dispatch(1);
-        s.routine(1, s.tryCatch(s.resource(s.rethrow(), s.throwing(0, 9)), 0, s.log(1)));
-        s.runs(s.throwing(Scene.CAST, 4));
-        Due.due("suppressed after the FAILURE was thrown", s.x.failure(0, 2), 1);
-        Due.dueText("and told so", s.reportText(), "dispatched Cast(4)+1");
     }
 
     /** Each depth wraps what the next one throws. */
-    private static void deepChain() {
+    private static void longestChain() {
+        Due.by(SECTION, "Of the k-th of the cause chain of the last run's FAILURE");
         Scene s = new Scene(12);
         int node = s.call(0);
         for (int i = 0; i < 7; i++) {
@@ -94,10 +41,66 @@ public final class FailureTest {
         }
         s.runs(node);
         int last = 12 * 7;
-        Due.due("first of the chain", s.x.failure(0, 1), 6);
-        Due.due("last but one", s.x.failure(last - 1, 1), 0);
-        Due.due("last", s.x.failure(last, 0), Scene.DEPTH);
-        Due.due("behind the last", s.x.failure(last + 1, 0), ThrowScenario.NONE);
-        Due.due("greatest depth", s.x.count(6), 12);
+        for (int k = 0; k < last; k++) {
+            Due.due("failure(" + k + ", 1)", s.x.failure(k, 1), 6 - k % 7);
+        }
+        Due.due("failure(" + last + ", 0)", s.x.failure(last, 0), Scene.DEPTH);
+        Due.due("failure(" + (last + 1) + ", 0)", s.x.failure(last + 1, 0), ThrowScenario.NONE);
+    }
+
+    private static void suppressedSince() {
+        Due.by(SECTION, "2: how many were suppressed.");
+        Scene s = new Scene(1);
+        s.x.dispatch(1);
+        s.routine(1, s.tryCatch(s.resource(s.rethrow(), s.throwing(0, 9)), 0, s.log(1)));
+        s.dueReport("by the dispatched routine", s.throwing(Scene.CAST, 4), "dispatched Cast(4)+1");
+        Due.due("failure(0, 2)", s.x.failure(0, 2), 1);
+    }
+
+    private static void noneInTheChain() {
+        Due.by(SECTION, "NONE if there is none");
+        Scene s = new Scene(1);
+        int thrower = s.throwing(Scene.CAST, 1);
+        s.runs(s.tryCatch(thrower, 0, s.wrap(Scene.NULL, 2)));
+        s.runs(thrower);
+        int[] wrong = {MIN, -2, -1, 1, 2, 84, 300, MAX};
+        for (int k : wrong) {
+            for (int what = 0; what <= 2; what++) {
+                Due.due("failure(" + k + ", " + what + ") of one", s.x.failure(k, what), ThrowScenario.NONE);
+            }
+        }
+        s.runs(s.tryCatch(thrower, 0, s.wrap(Scene.NULL, 2)));
+        Due.due("failure(1, 0) of two", s.x.failure(1, 0), Scene.CAST);
+        Due.due("failure(2, 0) of two", s.x.failure(2, 0), ThrowScenario.NONE);
+        s.runs(s.tryCatch(thrower, 0, s.throwing(Scene.NULL, 2)));
+        Due.due("failure(1, 0) of one thrown in a handler", s.x.failure(1, 0), ThrowScenario.NONE);
+    }
+
+    private static void noFailure() {
+        Due.by(SECTION, "NONE if there is none");
+        Scene s = new Scene(1);
+        Due.due("failure(0, 0) before a run", s.x.failure(0, 0), ThrowScenario.NONE);
+        int thrower = s.throwing(0, 1);
+        int[] without = {s.log(1), s.breaks(), s.returns(0), s.exit(0), s.endless(2), s.tryCatch(thrower, 0, s.log(1)),
+            s.atLast(thrower, s.returns(0)), s.atLast(thrower, s.exit(0))};
+        for (int node : without) {
+            s.runs(thrower);
+            Due.due("failure(0, 1)", s.x.failure(0, 1), 1);
+            s.runs(node);
+            for (int what = 0; what <= 2; what++) {
+                Due.due("failure(0, " + what + ") after node " + node, s.x.failure(0, what), ThrowScenario.NONE);
+            }
+        }
+    }
+
+    private static void anotherWhat() {
+        Due.by(SECTION, "NONE if there is none, or for another what.");
+        Scene s = new Scene(1);
+        s.runs(s.throwing(0, 1));
+        int[] wrong = {MIN, -2, -1, 3, 4, MAX};
+        for (int what : wrong) {
+            Due.due("failure(0, " + what + ")", s.x.failure(0, what), ThrowScenario.NONE);
+            Due.due("failure(1, " + what + ")", s.x.failure(1, what), ThrowScenario.NONE);
+        }
     }
 }

@@ -1,110 +1,119 @@
-/** Promise 6: run, what it begins with and its outcome. */
+/** Promise 6: run. */
 public final class RunTest {
+    private static final String SECTION = "Promise 6: run";
+    private static final int MIN = Integer.MIN_VALUE;
+    private static final int MAX = Integer.MAX_VALUE;
+
     public static void main(String[] args) {
-        refusals();
-        whatItBeginsWith();
-        outcomes();
-        tired();
-        exit();
+        theOutcome();
+        variables();
+        monitors();
+        log();
+        nothingFromTheRunBefore();
+        outOfRange();
+        notDefined();
         Due.finish();
     }
 
-    private static void refusals() {
-        Scene s = new Scene(2);
-        s.runs(s.all(s.log(3), s.lock(1, s.exit(1))), 7, 9);
-        int[] wrong = {-1, 1, 5, 6, Integer.MIN_VALUE, Integer.MAX_VALUE};
-        for (int r : wrong) {
-            Due.due("run(" + r + ")", s.x.run(r, 1, 2), ThrowScenario.REFUSED);
+    private static void theOutcome() {
+        Due.by(SECTION, "Runs routine r: the OUTCOME.");
+        for (int r = 0; r <= 5; r++) {
+            Scene s = new Scene(1);
+            s.routine(r, s.returns(0));
+            Due.due("run(" + r + ")", s.x.run(r, 0, 0), 0);
+            s.routine(r, s.throwing(0, 0));
+            Due.due("run(" + r + ") that throws", s.x.run(r, 0, 0), 1);
+            s.x.dispatch((r + 1) % 6);
+            s.routine((r + 1) % 6, s.log(1));
+            Due.due("run(" + r + ") that is dispatched", s.x.run(r, 0, 0), 2);
+            s.routine((r + 1) % 6, s.rethrow());
+            Due.due("run(" + r + ") whose handler throws", s.x.run(r, 0, 0), 3);
+            s.routine(r, s.exit(0));
+            Due.due("run(" + r + ") that exits", s.x.run(r, 0, 0), 4);
+            s.routine(r, s.endless(0));
+            Due.due("run(" + r + ") that is tired", s.x.run(r, 0, 0), 5);
         }
-        Due.due("variable(0) after refusals", s.x.variable(0), 7);
-        Due.due("value() after refusals", s.x.value(), 9);
-        Due.due("logged(0) after refusals", s.x.logged(0), 3);
-        Due.due("count(9) after refusals", s.x.count(9), 1);
-        Due.dueText("report after refusals", s.reportText(), "exit 9");
     }
 
-    private static void whatItBeginsWith() {
-        Scene s = new Scene(2);
+    private static void variables() {
+        Due.by(SECTION, "Before it the VARIABLES become a, b, 0, 0");
+        Scene s = new Scene(1);
         int shows = s.all(s.show(0), s.show(1), s.show(2), s.show(3));
-        int spoils = s.all(s.set(2, 8), s.set(3, 9), s.lock(0, s.lock(1, s.exit(0))));
+        int spoils = s.all(s.set(0, 6), s.set(1, 7), s.set(2, 8), s.set(3, 9));
+        s.runs(shows, MIN, MAX);
+        Due.dueText("the first run", s.logText(), "-2147483648 2147483647 0 0");
         s.runs(spoils, 1, 2);
-        Due.due("run of the shows", s.runs(shows, Integer.MIN_VALUE, Integer.MAX_VALUE), ThrowScenario.ENDED);
-        Due.dueText("the variables", s.logText(), "-2147483648 2147483647 0 0");
+        s.runs(shows, MAX, MIN);
+        Due.dueText("after a run that set them", s.logText(), "2147483647 -2147483648 0 0");
         s.runs(spoils, 1, 2);
-        Due.due("notify without a lock after a run that kept it", s.runs(s.wake(1)), ThrowScenario.UNCAUGHT);
-        Due.dueText("the log", s.logText(), "");
-        Due.due("monitor 0", s.x.count(8), 0);
-        s.runs(s.log(1));
-        Due.due("no failure from the run before", s.x.failure(0, 0), ThrowScenario.NONE);
+        s.runs(shows, 0, 0);
+        Due.dueText("0 and 0", s.logText(), "0 0 0 0");
     }
 
-    private static void outcomes() {
+    private static void monitors() {
+        Due.by(SECTION, "no monitor is HELD");
+        for (int m = 0; m <= 1; m++) {
+            Scene s = new Scene(1);
+            s.runs(s.lock(m, s.lock(m, s.exit(0))));
+            Due.due("count of a run that kept it", s.x.count(8 + m), 2);
+            Due.due("a NOTIFY in the next run", s.runs(s.wake(m)), ThrowScenario.UNCAUGHT);
+            Due.due("count of that run", s.x.count(8 + m), 0);
+            s.runs(s.lock(m, s.endless(2)));
+            Due.due("count of a tired run", s.x.count(8 + m), 1);
+            s.runs(s.lock(m, s.exit(0)));
+            Due.due("count of the next run", s.x.count(8 + m), 1);
+        }
+    }
+
+    private static void log() {
+        Due.by(SECTION, "and the log is empty.");
+        Scene s = new Scene(1);
+        int two = s.sequence(s.log(1), s.log(2));
+        s.dueLog("the first run", two, "1 2");
+        s.dueLog("the second run", two, "1 2");
+        s.dueLog("a run without a log", s.set(0, 1), "");
+        Due.due("count(7)", s.x.count(7), 0);
+    }
+
+    private static void nothingFromTheRunBefore() {
+        Due.by(SECTION, "Runs routine r: the OUTCOME.");
         Scene s = new Scene(2);
-        Due.due("normally", s.runs(s.log(1)), ThrowScenario.ENDED);
-        Due.due("by BREAK", s.runs(s.breaks()), ThrowScenario.ENDED);
-        Due.due("by RETURN", s.runs(s.returns(0)), ThrowScenario.ENDED);
-        Due.due("by THROWING", s.runs(s.throwing(0, 0)), ThrowScenario.UNCAUGHT);
-        Due.due("by EXIT", s.runs(s.exit(0)), ThrowScenario.EXITED);
         s.x.dispatch(1);
-        s.routine(1, s.log(2));
-        Due.due("dispatched", s.runs(s.throwing(0, 0)), ThrowScenario.DISPATCHED);
-        s.routine(1, s.wrap(0, 0));
-        Due.due("handler threw", s.runs(s.throwing(0, 0)), ThrowScenario.HANDLER_THREW);
-        Due.due("by EXIT, not dispatched", s.runs(s.exit(0)), ThrowScenario.EXITED);
+        s.routine(1, s.rethrow());
+        s.runs(s.tryCatch(s.resource(s.throwing(0, 1), s.call(5)), 0, s.rethrow()));
+        s.runs(s.log(1));
+        Due.due("failure(0, 0)", s.x.failure(0, 0), ThrowScenario.NONE);
+        Due.due("second(0, 0)", s.x.second(0, 0), ThrowScenario.NONE);
+        Due.due("value()", s.x.value(), ThrowScenario.NONE);
+        int[] counts = {1, 0, 0, 0, 1, 1, 0, 0};
+        for (int what = 2; what <= 9; what++) {
+            Due.due("count(" + what + ")", s.x.count(what), counts[what - 2]);
+        }
+        Due.dueText("report", s.reportText(), "ended");
     }
 
-    private static void tired() {
-        Scene s = new Scene(2);
-        int seventyThree = s.loop(8, s.loop(8, s.add(0, 1)));
-        int nine = s.loop(8, s.add(0, 1));
-        int most = s.all(seventyThree, seventyThree, seventyThree, s.loop(7, s.loop(8, s.add(0, 1))), nine);
-        s.routine(1, most);
-        s.x.run(1, 0, 0);
-        Due.due("the LOOPs and the four that join them", s.x.count(2), 3 * 73 + 64 + 9 + 4);
-        int one = s.add(1, 1);
-        int twoHundredNinetyNine = s.sequence(s.call(1), one);
-        Due.due("299 nodes", s.runs(twoHundredNinetyNine), ThrowScenario.ENDED);
-        Due.due("299 are begun", s.x.count(2), 299);
-        Due.due("300 nodes", s.runs(s.lock(0, twoHundredNinetyNine)), ThrowScenario.ENDED);
-        Due.due("300 are begun", s.x.count(2), 300);
-        Due.due("the last was done", s.x.variable(1), 1);
-        int threeHundredAndOne = s.atLast(s.call(1), s.atLast(one, one));
-        Due.due("one node too many", s.runs(threeHundredAndOne), ThrowScenario.TIRED);
-        Due.due("300 are begun, the 301st is not", s.x.count(2), 300);
-        Due.due("what the 301st would have done is not done", s.x.variable(1), 1);
-        Due.due("variables stay as they were", s.x.variable(0), 3 * 64 + 56 + 8);
-        Due.due("the closing that was not begun is not counted", s.x.count(5), 1);
-        Due.due("value() of a tired run", s.x.value(), ThrowScenario.NONE);
-        Due.dueText("report of a tired run", s.reportText(), "tired");
-        endsAtOnceWhenTired(s);
+    private static void outOfRange() {
+        Due.by(SECTION, "r out of 0 .. 5 or not defined: REFUSED.");
+        Scene s = new Scene(1);
+        int node = s.log(1);
+        for (int r = 0; r <= 5; r++) {
+            s.routine(r, node);
+        }
+        int[] wrong = {MIN, -2, -1, 6, 7, MAX};
+        for (int r : wrong) {
+            Due.due("run(" + r + ", 1, 2)", s.x.run(r, 1, 2), ThrowScenario.REFUSED);
+        }
+        Due.due("report(-1) after them", s.x.report(-1), 0);
     }
 
-    private static void endsAtOnceWhenTired(Scene s) {
-        int endless = s.loop(8, s.loop(8, s.loop(8, s.add(0, 1))));
-        s.routine(1, s.lock(1, endless));
-        int guarded = s.tryCatch(s.call(1), Scene.THROWABLE, s.log(1));
-        int closed = s.resource(s.atLast(guarded, s.log(2)), s.log(3));
-        Due.due("tired within everything", s.runs(s.loop(3, s.sequence(closed, s.log(4)))), ThrowScenario.TIRED);
-        Due.dueText("nothing more is done", s.logText(), "");
-        Due.due("the lock is not left", s.x.count(9), 1);
-        Due.due("no second part was begun", s.x.count(5), 0);
-    }
-
-    private static void exit() {
-        Scene s = new Scene(3);
-        int exits = s.exit(1);
-        s.routine(1, s.lock(0, exits));
-        int guarded = s.tryCatch(s.call(1), Scene.THROWABLE, s.log(1));
-        int closed = s.resource(s.atLast(guarded, s.log(2)), s.log(3));
-        Due.due("EXIT through everything", s.runs(s.loop(3, s.sequence(closed, s.log(4))), 0, -1), ThrowScenario.EXITED);
-        Due.dueText("nothing more is done", s.logText(), "");
-        Due.due("the lock is not left", s.x.count(8), 1);
-        Due.due("STATUS", s.x.value(), 255);
-        Due.due("no second part was begun", s.x.count(5), 0);
-        Due.due("EXIT in a FINALLY's second part", s.runs(s.atLast(s.throwing(0, 1), exits), 0, 256), ThrowScenario.EXITED);
-        Due.due("STATUS of 256", s.x.value(), 0);
-        Due.due("EXIT in a closing", s.runs(s.resource(s.throwing(0, 1), exits), 0, 7), ThrowScenario.EXITED);
-        Due.dueText("no failure then", s.reportText(), "exit 7");
-        Due.due("EXIT in a handler", s.runs(s.tryCatch(s.throwing(0, 1), 0, exits), 0, 8), ThrowScenario.EXITED);
+    private static void notDefined() {
+        Due.by(SECTION, "r out of 0 .. 5 or not defined: REFUSED.");
+        for (int defined = 0; defined <= 5; defined++) {
+            Scene s = new Scene(1);
+            s.routine(defined, s.log(1));
+            for (int r = 0; r <= 5; r++) {
+                Due.due("run(" + r + ", 1, 2)", s.x.run(r, 1, 2), r == defined ? ThrowScenario.ENDED : ThrowScenario.REFUSED);
+            }
+        }
     }
 }

@@ -11,6 +11,7 @@ final class Scene {
     static final int ERROR = 8;
     static final int EXCEPTION = 9;
     static final int NOTHING = -1;
+    static final int MANY = 1 + 3 * 73 + 65 + 3;
 
     final ThrowScenario x;
 
@@ -59,6 +60,32 @@ final class Scene {
         return made;
     }
 
+    /** A statement that never ends by itself within 300 nodes: it adds 1 to a variable again and again. */
+    int endless(int v) {
+        return loop(8, loop(8, loop(8, add(v, 1))));
+    }
+
+    /** A CALL that begins MANY nodes in all, itself among them; it takes routine 5 and a LIMIT of 2 or more. */
+    int many() {
+        int one = add(3, 1);
+        int seventyThree = loop(8, loop(8, one));
+        int sixtyFive = loop(8, loop(7, one));
+        routine(5, all(seventyThree, seventyThree, seventyThree, sixtyFive));
+        return call(5);
+    }
+
+    /** Begins just so many nodes, 1 .. 9. */
+    int few(int nodes) {
+        int one = add(3, 1);
+        return nodes == 1 ? one : loop(nodes - 1, one);
+    }
+
+    /** Does a node as number 292 .. 300 of those that the run begins; it takes routine 5. */
+    int begunAs(int number, int node) {
+        int joins = 2;
+        return all(few(number - 1 - MANY - joins), many(), node);
+    }
+
     void routine(int r, int node) {
         if (x.define(r, node) != 0) {
             throw new IllegalStateException("define(" + r + ", " + node + ") was refused");
@@ -73,6 +100,32 @@ final class Scene {
 
     int runs(int node) {
         return runs(node, 0, 0);
+    }
+
+    void dueLog(String name, int node, String want) {
+        runs(node);
+        Due.dueText(name + ", its log", logText(), want);
+    }
+
+    void dueReport(String name, int node, int a, int b, String want) {
+        runs(node, a, b);
+        Due.dueText(name + ", its report", reportText(), want);
+    }
+
+    void dueReport(String name, int node, String want) {
+        dueReport(name, node, 0, 0, want);
+    }
+
+    /** How a node completes in a run of it with 5 and 6: normally, break, return .., or uncaught .. */
+    String wayOf(int node) {
+        int mark = 987;
+        runs(loop(1, sequence(node, log(mark))), 5, 6);
+        boolean wentOn = x.count(7) > 0 && x.logged(x.count(7) - 1) == mark;
+        String report = reportText();
+        if (report.equals("ended")) {
+            return wentOn ? "normally" : "break";
+        }
+        return report.replace("ended", "return");
     }
 
     String reportText() {

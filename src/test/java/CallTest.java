@@ -67,10 +67,14 @@ public final class CallTest {
     private static void firstDepth() {
         Due.by("Terms", "The first statement of a run is at depth 1");
         Scene s = new Scene(1);
-        s.runs(s.log(1));
-        Due.due("count(6)", s.x.count(6), 1);
-        s.runs(s.sequence(s.log(1), s.loop(1, s.lock(0, s.log(2)))));
-        Due.due("parts are not deeper, count(6)", s.x.count(6), 1);
+        int log = s.log(1);
+        int thrower = s.throwing(0, 1);
+        int[] parts = {log, s.sequence(log, log), s.choose(0, log, log), s.choose(1, log, log), s.loop(2, log), s.tryCatch(thrower, 0, log),
+            s.atLast(log, log), s.resource(log, log), s.lock(0, log)};
+        for (int node : parts) {
+            s.runs(node, 1, 0);
+            Due.due("node " + node + " and its parts, count(6)", s.x.count(6), 1);
+        }
     }
 
     private static void tooDeep() {

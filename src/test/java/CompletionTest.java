@@ -7,6 +7,7 @@ public final class CompletionTest {
 
     public static void main(String[] args) {
         normally();
+        inTheOrderTold();
         aPartEndsTheNode();
         breakEndsTheLoop();
         catching();
@@ -52,6 +53,21 @@ public final class CompletionTest {
         Due.dueText("CAST", s.wayOf(s.cast(1)), "normally");
         Due.dueText("NOTIFY", s.wayOf(s.lock(0, s.wake(0))), "normally");
         Due.dueText("ORIGIN", s.wayOf(s.origin()), "normally");
+    }
+
+    private static void inTheOrderTold() {
+        Due.by("Terms", "The parts of a node are done in the order told");
+        Scene s = new Scene(1);
+        int second = s.sequence(s.add(2, 2), s.show(2));
+        int first = s.sequence(s.add(2, 1), s.show(2));
+        int throwing = s.sequence(first, s.throwing(0, 0));
+        s.dueLog("SEQUENCE", s.sequence(first, second), "1 3");
+        s.dueLog("FINALLY", s.atLast(first, second), "1 3");
+        s.dueLog("FINALLY that throws", s.atLast(throwing, second), "1 3");
+        s.dueLog("RESOURCE", s.resource(first, second), "1 3");
+        s.dueLog("RESOURCE that throws", s.resource(throwing, second), "1 3");
+        s.dueLog("TRY", s.tryCatch(throwing, 0, second), "1 3");
+        s.dueLog("one in the other", s.atLast(s.resource(first, second), s.loop(2, first)), "1 3 4 5");
     }
 
     private static void aPartEndsTheNode() {

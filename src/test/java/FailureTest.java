@@ -6,7 +6,8 @@ public final class FailureTest {
 
     public static void main(String[] args) {
         chain();
-        longestChain();
+        longChain();
+        chainOfATree();
         suppressedSince();
         noneInTheChain();
         noFailure();
@@ -32,7 +33,7 @@ public final class FailureTest {
     }
 
     /** Each depth wraps what the next one throws. */
-    private static void longestChain() {
+    private static void longChain() {
         Due.by(SECTION, "Of the k-th of the cause chain of the last run's FAILURE");
         Scene s = new Scene(12);
         int node = s.call(0);
@@ -46,6 +47,20 @@ public final class FailureTest {
         }
         Due.due("failure(" + last + ", 0)", s.x.failure(last, 0), Scene.DEPTH);
         Due.due("failure(" + (last + 1) + ", 0)", s.x.failure(last + 1, 0), ThrowScenario.NONE);
+    }
+
+    /** Every WRAP in a tree of TRYs has the one before it AT HAND. */
+    private static void chainOfATree() {
+        Due.by(SECTION, "Of the k-th of the cause chain of the last run's FAILURE");
+        Scene s = new Scene(1);
+        int node = s.wrap(Scene.RUNTIME, 3);
+        for (int level = 2; level <= 8; level++) {
+            node = s.tryCatch(node, 0, node);
+            s.runs(node);
+            int length = 1 << level - 1;
+            Due.due("the last of " + length, s.x.failure(length - 1, 1), 3);
+            Due.due("behind the last of " + length, s.x.failure(length, 1), ThrowScenario.NONE);
+        }
     }
 
     private static void suppressedSince() {

@@ -11,8 +11,10 @@ public final class KindsTest {
         sequence();
         chooses();
         loop();
+        breaksAndReturns();
         throwing();
         wrap();
+        tryAtLastAndResource();
         divide();
         divideTheLeast();
         divideByNone();
@@ -99,6 +101,16 @@ public final class KindsTest {
         }
     }
 
+    private static void breaksAndReturns() {
+        Due.by("Terms", "7 BREAK. 8 RETURN the value of variable a.");
+        Scene s = new Scene(1);
+        Due.dueText("BREAK", s.wayOf(s.breaks()), "break");
+        Due.dueText("RETURN of variable 0", s.wayOf(s.returns(0)), "return 5");
+        Due.dueText("RETURN of variable 1", s.wayOf(s.returns(1)), "return 6");
+        Due.dueText("RETURN of variable 2", s.wayOf(s.returns(2)), "return 0");
+        Due.dueText("RETURN of variable 3", s.wayOf(s.sequence(s.set(3, MIN), s.returns(3))), "return -2147483648");
+    }
+
     private static void throwing() {
         Due.by("Terms", "10 THROW a new THROWABLE of class a with message b, without cause.");
         Scene s = new Scene(1);
@@ -117,6 +129,21 @@ public final class KindsTest {
         s.dueReport("WRAP", wrapped, "uncaught Cast(2) from Null(1)");
         s.dueReport("WRAP of a WRAP", s.tryCatch(wrapped, 0, s.wrap(Scene.ERROR, 3)), "uncaught Error(3) from Cast(2) from Null(1)");
         Due.due("each is a new one", s.x.count(3), 3);
+    }
+
+    private static void tryAtLastAndResource() {
+        Due.by("Terms", "13 TRY node a, catching class b by node c. 14 FINALLY: node a, at last node b."
+            + " 15 RESOURCE: node a, then it is closed by node b.");
+        Scene s = new Scene(1);
+        int two = s.log(2);
+        int one = s.log(1);
+        int thrower = s.throwing(Scene.NULL, 3);
+        s.dueLog("TRY", s.tryCatch(s.sequence(one, thrower), Scene.NULL, two), "1 2");
+        s.dueLog("TRY without a throw", s.tryCatch(one, Scene.NULL, two), "1");
+        s.dueLog("FINALLY", s.atLast(one, two), "1 2");
+        s.dueLog("FINALLY with one node twice", s.atLast(one, one), "1 1");
+        s.dueLog("RESOURCE", s.resource(one, two), "1 2");
+        s.dueLog("RESOURCE with one node twice", s.resource(one, one), "1 1");
     }
 
     private static void dueQuotient(int divided, int by, int want) {

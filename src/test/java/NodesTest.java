@@ -5,6 +5,7 @@ public final class NodesTest {
 
     public static void main(String[] args) {
         numbers();
+        eachIsAStatement();
         earlierOnes();
         variables();
         nodeOrNothing();
@@ -47,6 +48,18 @@ public final class NodesTest {
         }
         Due.due("the 65th", x.node(7, 0, 0, 0), ThrowScenario.FULL);
         Due.due("count(1)", x.count(1), 64);
+    }
+
+    private static void eachIsAStatement() {
+        Due.by("Terms", "NODES are numbered 0, 1, .. as they are made, at most 64; each is a statement.");
+        Scene s = new Scene(1);
+        for (int i = 0; i < 64; i++) {
+            s.log(1000 + i);
+        }
+        int[] some = {0, 1, 31, 62, 63};
+        for (int node : some) {
+            s.dueLog("node " + node, node, "" + (1000 + node));
+        }
     }
 
     private static void earlierOnes() {

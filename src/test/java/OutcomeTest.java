@@ -134,10 +134,12 @@ public final class OutcomeTest {
         Due.due("by EXIT", s.runs(thrower, 5, 260), ThrowScenario.EXITED);
         Due.due("its STATUS", s.x.value(), 4);
         Due.dueText("its report", s.reportText(), "exit 4 Cast(2)");
+        Due.due("its FAILURE's message", s.x.failure(0, 1), 2);
         Due.dueText("nothing more is done", s.logText(), "");
         s.routine(1, s.endless(2));
         Due.due("by the 301st node", s.runs(thrower), ThrowScenario.TIRED);
         Due.dueText("its report", s.reportText(), "tired Cast(2)");
+        Due.due("its FAILURE's message", s.x.failure(0, 1), 2);
         Due.due("value()", s.x.value(), ThrowScenario.NONE);
         Due.due("second(0, 0)", s.x.second(0, 0), ThrowScenario.NONE);
     }

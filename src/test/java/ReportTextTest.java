@@ -90,6 +90,8 @@ public final class ReportTextTest {
         s.dueReport("behind the FAILURE's causes", wrapped, "handler threw Index(2) from Error(1) then Arithmetic(4)+1");
         s.routine(1, s.wrap(Scene.CAST, 5));
         s.dueReport("its own causes are not told", wrapped, "handler threw Index(2) from Error(1) then Cast(5)");
+        s.routine(1, wrapped);
+        s.dueReport("nor those that are not the FAILURE", one, "handler threw Error(1) then Index(2)");
     }
 
     private static void words() {

@@ -4,6 +4,7 @@ public final class AtHandTest {
         innermost();
         onlyInAHandler();
         inEveryPartOfAHandler();
+        whenAnotherHandlerIsOver();
         calledBeginsWithNone();
         Due.finish();
     }
@@ -52,6 +53,28 @@ public final class AtHandTest {
         s.dueLog("in a LOCK", s.tryCatch(one, 0, s.lock(0, origin)), "2");
         s.dueReport("to CAST in a LOCK", s.tryCatch(one, 0, s.lock(0, s.cast(Scene.ERROR))), "uncaught Cast(2)");
         s.dueReport("to WRAP in a LOOP", s.tryCatch(one, 0, s.loop(2, s.wrap(Scene.ERROR, 3))), "uncaught Error(3) from Arithmetic(1)");
+    }
+
+    /** A handler that is over leaves nothing behind, whatever part of a node comes next. */
+    private static void whenAnotherHandlerIsOver() {
+        Due.by("Terms", "AT HAND is the THROWABLE of the innermost handler c that is being done in this routine's statement");
+        for (String part : Scene.PARTS) {
+            Scene s = new Scene(1);
+            int over = s.tryCatch(s.throwing(Scene.CAST, 2), 0, s.log(7));
+            int next = s.sequence(over, s.asPart(part, s.origin()));
+            s.dueLog("none in " + part, next, "7");
+            s.dueLog("the outer one in " + part, s.tryCatch(s.throwing(Scene.ARITHMETIC, 1), 0, next), "7 2");
+        }
+        Scene s = new Scene(1);
+        int one = s.throwing(Scene.ARITHMETIC, 1);
+        int over = s.tryCatch(s.throwing(Scene.CAST, 5), 0, s.log(7));
+        s.dueReport("CAST of the outer one", s.tryCatch(one, 0, s.sequence(over, s.cast(Scene.CAST))), "uncaught Cast(2)");
+        s.dueReport("CAST of the outer one to its class", s.tryCatch(one, 0, s.sequence(over, s.cast(Scene.ARITHMETIC))), "ended");
+        s.dueReport("RETHROW of the outer one", s.tryCatch(one, 0, s.sequence(over, s.rethrow())), "uncaught Arithmetic(1)");
+        s.dueReport("WRAP of the outer one", s.tryCatch(one, 0, s.sequence(over, s.wrap(Scene.ERROR, 3))), "uncaught Error(3) from Arithmetic(1)");
+        s.dueReport("CAST of none", s.sequence(over, s.cast(Scene.ERROR)), "ended");
+        s.dueReport("RETHROW of none", s.sequence(over, s.rethrow()), "uncaught Null(0)");
+        s.dueReport("WRAP of none", s.sequence(over, s.wrap(Scene.ERROR, 3)), "uncaught Error(3)");
     }
 
     private static void calledBeginsWithNone() {

@@ -2,6 +2,7 @@
 public final class CallTest {
     public static void main(String[] args) {
         oneDeeper();
+        oneDeeperThanEveryPart();
         normallyOrByBreak();
         byReturn();
         byThrowing();
@@ -24,6 +25,28 @@ public final class CallTest {
         }
         s.runs(s.sequence(s.call(5), s.call(5)));
         Due.due("one after the other, count(6)", s.x.count(6), 2);
+    }
+
+    private static void oneDeeperThanEveryPart() {
+        Due.by("Terms", "9: the routine's statement is done one deeper");
+        for (String part : Scene.PARTS) {
+            Scene s = new Scene(3);
+            dueThirdDepth("in " + part, s, s.asPart(part, s.call(2)));
+        }
+        Scene s = new Scene(3);
+        dueThirdDepth("in TRY c", s, s.tryCatch(s.throwing(Scene.CAST, 1), 0, s.call(2)));
+    }
+
+    /** The node holds a CALL of routine 2, and is itself done at depth 2. */
+    private static void dueThirdDepth(String name, Scene s, int node) {
+        int call = s.call(1);
+        s.routine(1, node);
+        s.routine(2, s.log(7));
+        s.dueLog("a CALL " + name, call, "7");
+        Due.due("a CALL " + name + ", count(6)", s.x.count(6), 3);
+        s.routine(2, s.call(3));
+        s.routine(3, s.log(7));
+        s.dueReport("a CALL " + name + " that goes on to depth 4", call, "uncaught Depth(3)");
     }
 
     private static void normallyOrByBreak() {

@@ -12,6 +12,9 @@ final class Scene {
     static final int EXCEPTION = 9;
     static final int NOTHING = -1;
     static final int MANY = 1 + 3 * 73 + 65 + 3;
+    /** What a node can be a part of, but for the handler c of 13, which has its own AT HAND. */
+    static final String[] PARTS = {"SEQUENCE a", "SEQUENCE b", "IF b", "IF c", "LOOP b", "TRY a", "FINALLY a", "FINALLY b",
+        "RESOURCE a", "RESOURCE b", "LOCK b"};
 
     final ThrowScenario x;
 
@@ -58,6 +61,25 @@ final class Scene {
             made = sequence(nodes[i], made);
         }
         return made;
+    }
+
+    /** A statement that does the node once, as one of PARTS; it takes variables 2 and 3, and a TRY there catches MONITOR. */
+    int asPart(String part, int node) {
+        int other = add(3, 1);
+        switch (part) {
+            case "SEQUENCE a": return sequence(node, other);
+            case "SEQUENCE b": return sequence(other, node);
+            case "IF b": return sequence(set(2, 1), choose(2, node, other));
+            case "IF c": return sequence(set(2, 0), choose(2, other, node));
+            case "LOOP b": return loop(1, node);
+            case "TRY a": return tryCatch(node, MONITOR, other);
+            case "FINALLY a": return atLast(node, other);
+            case "FINALLY b": return atLast(other, node);
+            case "RESOURCE a": return resource(node, other);
+            case "RESOURCE b": return resource(other, node);
+            case "LOCK b": return lock(0, node);
+            default: throw new IllegalArgumentException(part);
+        }
     }
 
     /** A statement that never ends by itself within 300 nodes: it adds 1 to a variable again and again. */
